@@ -302,7 +302,7 @@ public final class ByteShapes {
         /** What an empty POINT has for x and y. */
         static final long EMPTY = 0x7FF8000000000000L;
         /** Stands for every whole number from 2 to the power 52 on. */
-        static final long FAR = Long.MAX_VALUE;
+        private static final long FAR = 1L << 62;
 
         private static final long SIGN = 1L << 63;
         private static final long INFINITE = 0x7FF0000000000000L;

@@ -60,6 +60,11 @@ public final class Promise01NewObjectTest {
             Check.reads("4094 points, room " + room, shapes, 0, line(4094), 2, 4094);
             Check.reads("2047 parts, room " + room, shapes, 1, emptyPoints(2047), planOf(2047));
             Check.fault("2048 parts, room " + room, shapes, emptyPoints(2048), 7, 9 + 2047 * 21 + 5);
+            Wkb odd = Wkb.shape(0, 7).number(2047).part(0, 3).number(1).number(1).xy(1, 2);
+            for (int i = 0; i < 2046; i++) {
+                odd.part(0, 7).number(0);
+            }
+            Check.fault("4097 plan numbers, room " + room, shapes, odd, 7, 9 + 29 + 2045 * 9 + 5);
         }
     }
 

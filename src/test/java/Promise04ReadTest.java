@@ -1,3 +1,6 @@
+import java.math.BigDecimal;
+import java.math.RoundingMode;
+
 /** read: the tape into a slot, exactly. */
 public final class Promise04ReadTest {
     private static final double FAR = 1000000000;
@@ -9,9 +12,11 @@ public final class Promise04ReadTest {
         emptyPoints();
         deepest();
         rounding();
+        roundingOfEverySize();
         edgesOfTheRange();
         slots();
         emptiesTheTape();
+        afterUnfinishedShapes();
         Check.done();
     }
 
@@ -135,6 +140,19 @@ public final class Promise04ReadTest {
         rounds(3, 999999.9995, 1000000000);
     }
 
+    /** Each power of two and its neighbours, from far too small to the edge of the range. */
+    private static void roundingOfEverySize() {
+        for (int digits = 0; digits < 4; digits++) {
+            for (int power = -80; power < 20; power++) {
+                double x = Math.scalb(1.0, power);
+                for (double near : new double[] {Math.nextDown(x), x, Math.nextUp(x), -1.5 * x}) {
+                    rounds(digits, near, new BigDecimal(near).movePointRight(digits)
+                        .setScale(0, RoundingMode.HALF_EVEN).intValueExact());
+                }
+            }
+        }
+    }
+
     private static void rounds(int digits, double x, int due) {
         ByteShapes shapes = new ByteShapes(digits, 1, 2);
         String what = x + " with " + digits + " digits";
@@ -186,5 +204,17 @@ public final class Promise04ReadTest {
         Check.equal("the slot has none", 0, shapes.count(0, 0));
         Check.equal("the slot has no points", 0, shapes.count(0, 1));
         Check.badArgument("read(1) of nothing", () -> shapes.read(1));
+    }
+
+    /** What a shape still waited for when its bytes ended is no matter of the next one. */
+    private static void afterUnfinishedShapes() {
+        ByteShapes shapes = new ByteShapes(0, 10, 20);
+        Wkb part = Wkb.shape(1, 7).number(9).part(0, 6).number(9).part(1, 3).number(9).number(9).xy(1, 2);
+        for (int cut = 0; cut <= part.bytes().length; cut++) {
+            part.cut(cut).feedTo(shapes);
+            Check.badArgument("read(0)", () -> shapes.read(0));
+            Check.reads("after " + cut + " bytes", shapes, 1, Wkb.shape(0, 1).xy(cut, 3), 1, 1);
+            Check.points("after " + cut + " bytes", shapes, 1, cut, 3);
+        }
     }
 }
