@@ -50,13 +50,17 @@ public final class ByteShapes {
     }
 
     public int read(int slot) throws IndexOutOfBoundsException, IllegalArgumentException {
-        Shape shape = shapeIn(slot);
-        boolean fine = reader.takeAll(tape, shape);
+        boolean known = isSlot(slot);
+        boolean fine = known && reader.takeAll(tape, shapes[slot]);
+        // In any case, also when there is no slot to read into.
         tape.cut(0);
+        if (!known) {
+            throw new IndexOutOfBoundsException("no such slot");
+        }
         if (!fine) {
             throw new IllegalArgumentException("no shape");
         }
-        return shape.planAt(0);
+        return shapes[slot].planAt(0);
     }
 
     public int fault(int what) throws IndexOutOfBoundsException {
@@ -122,8 +126,12 @@ public final class ByteShapes {
         }
     }
 
+    private static boolean isSlot(int slot) {
+        return slot >= 0 && slot < SLOTS;
+    }
+
     private Shape shapeIn(int slot) {
-        if (slot < 0 || slot >= SLOTS) {
+        if (!isSlot(slot)) {
             throw new IndexOutOfBoundsException("no such slot");
         }
         return shapes[slot];

@@ -1,20 +1,48 @@
+import java.util.Arrays;
+import java.util.List;
+import java.util.Map;
+
 /** Counts and prints the answers that are not as due. */
 final class Check {
     interface Call {
         long answer();
     }
 
+    /** A call on an object that is made for it. */
+    interface Use {
+        long answer(ByteShapes shapes);
+    }
+
     private static int checked = 0;
     private static int wrong = 0;
+    private static String sentence = "";
+    private static int checkedBefore = 0;
 
     private Check() {
+    }
+
+    /** What follows tests this sentence of the document, up to the next one. */
+    static void says(String next) {
+        endSentence();
+        sentence = next;
+        checkedBefore = checked;
+    }
+
+    private static void endSentence() {
+        if (!sentence.isEmpty() && checked == checkedBefore) {
+            tell("nothing is looked at");
+        }
+    }
+
+    private static void tell(String text) {
+        wrong++;
+        System.out.println((sentence.isEmpty() ? "" : "\"" + sentence + "\": ") + text);
     }
 
     static void equal(String what, long want, long got) {
         checked++;
         if (want != got) {
-            wrong++;
-            System.out.println(what + " answered " + got + ", due is " + want);
+            tell(what + " answered " + got + ", due is " + want);
         }
     }
 
@@ -38,8 +66,7 @@ final class Check {
             }
             got = e.toString();
         }
-        wrong++;
-        System.out.println(what + " answered " + got + ", due is " + want.getSimpleName());
+        tell(what + " answered " + got + ", due is " + want.getSimpleName());
     }
 
     static void noSuch(String what, Call call) {
@@ -52,6 +79,38 @@ final class Check {
 
     static void badState(String what, Call call) {
         refused(what, IllegalStateException.class, call);
+    }
+
+    /** That the call is refused, and that every other call answers as if it had not been. */
+    static void leavesAll(String what, Class<? extends RuntimeException> want, Use use) {
+        changesOnly(what, want, use);
+    }
+
+    /** That the call is refused, and that other calls show it in these parts of the object alone. */
+    static void changesOnly(String what, Class<? extends RuntimeException> want, Use use, String... parts) {
+        ByteShapes used = InUse.make();
+        refused(what, want, () -> use.answer(used));
+        compare(what, InUse.make(), used, parts);
+    }
+
+    private static void compare(String what, ByteShapes before, ByteShapes after, String... parts) {
+        List<String> mayDiffer = Arrays.asList(parts);
+        Map<String, String> due = InUse.look(before);
+        Map<String, String> got = InUse.look(after);
+        for (String part : due.keySet()) {
+            checked++;
+            boolean alike = due.get(part).equals(got.get(part));
+            if (alike == mayDiffer.contains(part)) {
+                tell(what + (alike ? " leaves " : " changes ") + part + ": " + got.get(part));
+            }
+        }
+    }
+
+    /** That an answered call shows in these parts of the object alone. */
+    static void answersAndChangesOnly(String what, long want, Use use, String... parts) {
+        ByteShapes used = InUse.make();
+        equal(what, want, use.answer(used));
+        compare(what, InUse.make(), used, parts);
     }
 
     /** That the bytes are refused in slot 0, with what was wrong and where. */
@@ -95,6 +154,7 @@ final class Check {
     }
 
     static void done() {
+        endSentence();
         System.out.println(checked + " answers looked at, " + wrong + " not as due");
         if (wrong != 0 || checked == 0) {
             System.exit(1);

@@ -73,9 +73,9 @@ final class Model {
     }
 
     int read(int slot) {
-        at(plans, slot);
         in = ByteBuffer.wrap(tape);
         tape = new byte[0];
+        at(plans, slot);
         wrong = 0;
         place = 0;
         planRead = new ArrayList<>();

@@ -1,220 +1,149 @@
-import java.math.BigDecimal;
-import java.math.RoundingMode;
-
-/** read: the tape into a slot, exactly. */
+/** Promise 4: read. What the bytes mean, and what is wrong in them, is tested with the terms. */
 public final class Promise04ReadTest {
-    private static final double FAR = 1000000000;
+    private static final int[] NO_SLOTS = {-1, 4, 5, -4, 256, Integer.MIN_VALUE, Integer.MAX_VALUE};
 
     public static void main(String[] args) {
-        kinds();
-        partsWithOrdersOfTheirOwn();
-        marks();
-        emptyPoints();
-        deepest();
-        rounding();
-        roundingOfEverySize();
-        edgesOfTheRange();
-        slots();
-        emptiesTheTape();
-        afterUnfinishedShapes();
+        theKind();
+        intoThatSlotAlone();
+        emptyAfterAShape();
+        emptyAfterSomethingWrong();
+        emptyAfterNoSlot();
+        feedingAfterNoSlot();
+        noSuchSlot();
+        somethingWrong();
+        wrongOverAndOver();
         Check.done();
     }
 
-    private static void kinds() {
-        for (int order = 0; order <= 1; order++) {
+    private static void theKind() {
+        Check.says("into a slot: the shape's kind.");
+        for (int slot = 0; slot < 4; slot++) {
             ByteShapes shapes = new ByteShapes(0, 10, 20);
-            Check.reads("POINT", shapes, 0, Wkb.shape(order, 1).xy(1, 2), 1, 1);
-            Check.points("POINT", shapes, 0, 1, 2);
-            Check.reads("LINESTRING", shapes, 1, Wkb.shape(order, 2).number(2).xy(1, 2, 3, 4), 2, 2);
-            Check.points("LINESTRING", shapes, 1, 1, 2, 3, 4);
-            Check.reads("LINESTRING of none", shapes, 1, Wkb.shape(order, 2).number(0), 2, 0);
-            Check.points("LINESTRING of none", shapes, 1);
-            Check.reads("POLYGON", shapes, 2,
-                Wkb.shape(order, 3).number(2).number(1).xy(1, 2).number(2).xy(3, 4, 5, 6), 3, 2, 1, 2);
-            Check.points("POLYGON", shapes, 2, 1, 2, 3, 4, 5, 6);
-            for (int kind = 3; kind <= 7; kind++) {
-                Check.reads("none in " + kind, shapes, 3, Wkb.shape(order, kind).number(0), kind, 0);
+            Check.reads("kind 1", shapes, slot, Wkb.shape(0, 1).xy(1, 2), 1, 1);
+            Check.reads("kind 1, empty", shapes, slot, Wkb.shape(0, 1).bits(-1L, -1L), 1, 0);
+            for (int kind = 2; kind <= 7; kind++) {
+                Check.reads("kind " + kind, shapes, slot, Wkb.shape(1, kind).number(0), kind, 0);
+                Check.reads("kind " + kind + " with a mark", shapes, slot,
+                    Wkb.shape(0, 0x20000000L + kind).number(9).number(0), kind, 0);
             }
         }
     }
 
-    private static void partsWithOrdersOfTheirOwn() {
-        ByteShapes shapes = new ByteShapes(0, 20, 40);
-        Check.reads("MULTIPOINT", shapes, 0,
-            Wkb.shape(0, 4).number(3).part(1, 1).xy(1, 2).part(0, 1).xy(3, 4).part(1, 1).xy(5, 6),
-            4, 3, 1, 1, 1, 1, 1, 1);
-        Check.points("MULTIPOINT", shapes, 0, 1, 2, 3, 4, 5, 6);
-        Check.reads("MULTILINESTRING", shapes, 1,
-            Wkb.shape(1, 5).number(2).part(0, 2).number(1).xy(1, 2).part(1, 2).number(0), 5, 2, 2, 1, 2, 0);
-        Check.reads("MULTIPOLYGON", shapes, 2,
-            Wkb.shape(1, 6).number(2).part(0, 3).number(0).part(1, 3).number(1).number(1).xy(8, 9),
-            6, 2, 3, 0, 3, 1, 1);
-        Wkb all = Wkb.shape(1, 7).number(4).part(0, 7).number(1).part(1, 7).number(0)
-            .part(0, 6).number(1).part(1, 3).number(1).number(1).xy(1, -1)
-            .part(1, 4).number(1).part(0, 1).xy(2, -2).part(0, 2).number(2).xy(3, -3, 4, -4);
-        Check.reads("GEOMETRYCOLLECTION", shapes, 3, all, 7, 4, 7, 1, 7, 0, 6, 1, 3, 1, 1, 4, 1, 1, 1, 2, 2);
-        Check.points("GEOMETRYCOLLECTION", shapes, 3, 1, -1, 2, -2, 3, -3, 4, -4);
+    private static void intoThatSlotAlone() {
+        Check.says("Reads the tape (which is empty then, in any case) into a slot");
+        Check.answersAndChangesOnly("read(0)", 2, shapes -> shapes.read(0), "slot 0", "fault", "tape");
+        Check.answersAndChangesOnly("read(1)", 2, shapes -> shapes.read(1), "slot 1", "fault", "tape");
+        Check.answersAndChangesOnly("read(2)", 2, shapes -> shapes.read(2), "slot 2", "fault", "tape");
+        Check.answersAndChangesOnly("read(3)", 2, shapes -> shapes.read(3), "slot 3", "fault", "tape");
     }
 
-    private static void marks() {
-        ByteShapes shapes = new ByteShapes(0, 10, 10);
-        Check.reads("a mark", shapes, 0, Wkb.shape(1, 0x20000001L).number(4326).xy(1, 2), 1, 1);
-        Check.points("a mark", shapes, 0, 1, 2);
-        Check.reads("marks of parts", shapes, 0, Wkb.shape(0, 0x20000005L).number(-1)
-            .number(1).part(1, 0x20000002L).number(7).number(1).xy(3, 4), 5, 1, 2, 1);
-        Check.points("marks of parts", shapes, 0, 3, 4);
+    private static void emptyAfterAShape() {
+        Check.says("(which is empty then, in any case)");
+        ByteShapes shapes = InUse.make();
+        Check.equal("read", 2, shapes.read(3));
+        Check.equal("the tape", 0, shapes.count(0, 2));
+        nothingToRead(shapes);
     }
 
-    private static void emptyPoints() {
-        ByteShapes shapes = new ByteShapes(0, 1, 20);
-        long[] none = {Wkb.NO_NUMBER, 0x7FF0000000000001L, 0xFFF8000000000000L, -1L, 0x7FFFFFFFFFFFFFFFL,
-            0xFFF0000000000001L};
-        for (long x : none) {
-            for (long y : none) {
-                Check.reads("empty POINT", shapes, 0, Wkb.shape(0, 1).bits(x, y), 1, 0);
-                Check.points("empty POINT", shapes, 0);
-            }
-        }
-        Check.reads("empty POINTs where no point has room", shapes, 1,
-            Wkb.shape(0, 4).number(3).part(0, 1).xy(1, 2).part(1, 1).bits(Wkb.NO_NUMBER, -1L)
-                .part(0, 1).bits(-1L, Wkb.NO_NUMBER), 4, 3, 1, 1, 1, 0, 1, 0);
-        Check.points("the one point", shapes, 1, 1, 2);
+    private static void nothingToRead(ByteShapes shapes) {
+        Check.badState("end", () -> shapes.end(0));
+        Check.badArgument("read of nothing", () -> shapes.read(0));
+        Check.equal("END", 3, shapes.fault(0));
+        Check.equal("at 0", 0, shapes.fault(1));
+        Check.equal("feed", 20, shapes.feed(0, 0, 0, 0, 0));
     }
 
-    private static void deepest() {
-        ByteShapes shapes = new ByteShapes(0, 10, 4096);
-        Wkb bytes = Wkb.shape(0, 7).number(1);
-        int[] plan = new int[2 * 50 + 5];
-        for (int i = 0; i < 50; i++) {
-            plan[2 * i] = 7;
-            plan[2 * i + 1] = 1;
-            if (i > 0) {
-                bytes.part(i % 2, 7).number(1);
-            }
-        }
-        bytes.part(0, 6).number(1).part(1, 3).number(1).number(1).xy(1, 2);
-        System.arraycopy(new int[] {6, 1, 3, 1, 1}, 0, plan, 100, 5);
-        Check.reads("a MULTIPOLYGON in fifty", shapes, 0, bytes, plan);
-        Wkb side = Wkb.shape(0, 7).number(60);
-        int[] sidePlan = new int[122];
-        sidePlan[0] = 7;
-        sidePlan[1] = 60;
-        for (int i = 0; i < 60; i++) {
-            side.part(0, 7).number(0);
-            sidePlan[2 + 2 * i] = 7;
-        }
-        Check.reads("sixty side by side", shapes, 0, side, sidePlan);
-    }
-
-    private static void rounding() {
-        rounds(0, 0.5, 0);
-        rounds(0, 1.5, 2);
-        rounds(0, 2.5, 2);
-        rounds(0, -0.5, 0);
-        rounds(0, -1.5, -2);
-        rounds(0, -2.5, -2);
-        rounds(0, Math.nextUp(0.5), 1);
-        rounds(0, Math.nextDown(0.5), 0);
-        rounds(0, Math.nextUp(2.5), 3);
-        rounds(0, Math.nextDown(1.5), 1);
-        rounds(0, -0.0, 0);
-        rounds(0, Double.MIN_VALUE, 0);
-        rounds(3, -Double.MIN_VALUE, 0);
-        rounds(3, Double.MIN_NORMAL, 0);
-        rounds(3, Math.nextDown(Double.MIN_NORMAL), 0);
-        rounds(1, 0.25, 2);
-        rounds(1, 0.75, 8);
-        rounds(1, -0.25, -2);
-        rounds(1, 0.05, 1);
-        rounds(1, 0.15, 1);
-        rounds(1, 0.35, 3);
-        rounds(2, 0.125, 12);
-        rounds(2, 0.375, 38);
-        rounds(2, 1.005, 100);
-        rounds(2, 0.005, 1);
-        rounds(3, 0.0625, 62);
-        rounds(3, 0.1875, 188);
-        rounds(3, 0.0005, 1);
-        rounds(3, 1.0005, 1000);
-        rounds(3, 0x1.0p-11, 0);
-        rounds(3, 999999.9995, 1000000000);
-    }
-
-    /** Each power of two and its neighbours, from far too small to the edge of the range. */
-    private static void roundingOfEverySize() {
-        for (int digits = 0; digits < 4; digits++) {
-            for (int power = -80; power < 20; power++) {
-                double x = Math.scalb(1.0, power);
-                for (double near : new double[] {Math.nextDown(x), x, Math.nextUp(x), -1.5 * x}) {
-                    rounds(digits, near, new BigDecimal(near).movePointRight(digits)
-                        .setScale(0, RoundingMode.HALF_EVEN).intValueExact());
-                }
-            }
+    private static void emptyAfterSomethingWrong() {
+        Check.says("(which is empty then, in any case)");
+        Wkb[] wrong = {Wkb.bytes(2), Wkb.shape(0, 8), Wkb.shape(0, 1), Wkb.shape(0, 1).xy(Double.NaN, 0),
+            Wkb.shape(0, 1).xy(1e10, 0), Wkb.shape(0, 1).xy(1, 2).raw(0), Wkb.shape(0, 1001),
+            Wkb.shape(0, 2).number(99).raw(new int[176]), new Wkb()};
+        for (Wkb bytes : wrong) {
+            ByteShapes shapes = new ByteShapes(0, 10, 10);
+            bytes.feedTo(shapes);
+            Check.badArgument("read", () -> shapes.read(0));
+            Check.equal("the tape", 0, shapes.count(0, 2));
+            nothingToRead(shapes);
         }
     }
 
-    private static void rounds(int digits, double x, int due) {
-        ByteShapes shapes = new ByteShapes(digits, 1, 2);
-        String what = x + " with " + digits + " digits";
-        Check.reads(what, shapes, 0, Wkb.shape(1, 1).xy(x, x), 1, 1);
-        Check.points(what, shapes, 0, due, due);
-    }
-
-    private static void edgesOfTheRange() {
-        int most = 1000000000;
-        rounds(0, FAR, most);
-        rounds(0, -FAR, -most);
-        rounds(0, FAR + 0.5, most);
-        rounds(0, -FAR - 0.5, -most);
-        rounds(0, FAR - 0.5, most);
-        rounds(1, FAR / 10, most);
-        rounds(2, -FAR / 100, -most);
-        rounds(3, FAR / 1000, most);
-        rounds(3, FAR / 1000 + 0.0004, most);
-        ByteShapes shapes = new ByteShapes(0, 1, 2);
-        Check.fault("just beyond", shapes, Wkb.shape(0, 1).xy(Math.nextUp(FAR + 0.5), 0), 5, 5);
-        Check.fault("just beyond", shapes, Wkb.shape(0, 1).xy(0, Math.nextDown(-FAR - 0.5)), 5, 13);
-    }
-
-    private static void slots() {
-        ByteShapes shapes = new ByteShapes(0, 10, 10);
-        for (int slot = 0; slot < 4; slot++) {
-            Check.reads("slot " + slot, shapes, slot, Wkb.shape(0, 1).xy(slot, 10 + slot), 1, 1);
-        }
-        for (int slot = 0; slot < 4; slot++) {
-            Check.points("slot " + slot, shapes, slot, slot, 10 + slot);
-        }
-        Wkb.shape(0, 1).xy(7, 8).feedTo(shapes);
-        for (int slot : new int[] {-1, 4, Integer.MIN_VALUE, Integer.MAX_VALUE}) {
+    private static void emptyAfterNoSlot() {
+        Check.says("(which is empty then, in any case)");
+        for (int slot : NO_SLOTS) {
+            ByteShapes shapes = InUse.make();
+            Check.equal("the tape before", InUse.TAPE_BYTES, shapes.count(0, 2));
             Check.noSuch("read(" + slot + ")", () -> shapes.read(slot));
+            Check.equal("the tape after read(" + slot + ")", 0, shapes.count(0, 2));
+            nothingToRead(shapes);
         }
-        Check.equal("nothing was read", 21, shapes.count(0, 2));
-        Check.equal("read", 1, shapes.read(2));
-        Check.points("anew", shapes, 2, 7, 8);
     }
 
-    private static void emptiesTheTape() {
-        ByteShapes shapes = new ByteShapes(0, 10, 10);
-        Wkb.shape(0, 1).xy(1, 2).feedTo(shapes);
-        shapes.read(0);
-        Check.equal("the tape", 0, shapes.count(0, 2));
-        Wkb.bytes(2).feedTo(shapes);
-        Check.badArgument("read(0)", () -> shapes.read(0));
-        Check.equal("the tape", 0, shapes.count(0, 2));
-        Check.equal("the slot has none", 0, shapes.count(0, 0));
-        Check.equal("the slot has no points", 0, shapes.count(0, 1));
-        Check.badArgument("read(1) of nothing", () -> shapes.read(1));
+    private static void feedingAfterNoSlot() {
+        Check.says("(which is empty then, in any case)");
+        for (int slot : NO_SLOTS) {
+            ByteShapes shapes = new ByteShapes(0, 10, 10);
+            shapes.feed(-1, -1, -1, -1, -1);
+            Check.noSuch("read(" + slot + ")", () -> shapes.read(slot));
+            Check.reads("what is fed after it", shapes, 0, Wkb.shape(0, 1).xy(1, 2), 1, 1);
+            Check.points("what is fed after it", shapes, 0, 1, 2);
+            shapes.write(0, 0);
+            shapes.again();
+            Check.noSuch("read(" + slot + ")", () -> shapes.read(slot));
+            Check.equal("the result is no tape any more", 0, shapes.count(0, 2));
+            Check.equal("the result stays", 21, shapes.count(0, 3));
+            Check.equal("again", 21, shapes.again());
+            Check.equal("read", 1, shapes.read(1));
+        }
     }
 
-    /** What a shape still waited for when its bytes ended is no matter of the next one. */
-    private static void afterUnfinishedShapes() {
+    private static void noSuchSlot() {
+        Check.says("IndexOutOfBoundsException, when there is no such slot");
+        for (int slot : NO_SLOTS) {
+            Check.changesOnly("read(" + slot + ")", IndexOutOfBoundsException.class,
+                shapes -> shapes.read(slot), "tape");
+            Check.changesOnly("read(" + slot + ") of wrong bytes", IndexOutOfBoundsException.class,
+                shapes -> shapes.feed(1, 2, 3, 4, 5) + shapes.read(slot), "tape");
+        }
+    }
+
+    private static void somethingWrong() {
+        Check.says("IllegalArgumentException, when something is wrong (the slot has none then).");
+        Check.changesOnly("read(0)", IllegalArgumentException.class,
+            shapes -> shapes.end(19) + shapes.read(0), "slot 0", "fault", "tape");
+        Check.changesOnly("read(1)", IllegalArgumentException.class,
+            shapes -> shapes.end(19) + shapes.read(1), "slot 1", "fault", "tape");
+        Check.changesOnly("read(2)", IllegalArgumentException.class,
+            shapes -> shapes.end(19) + shapes.read(2), "slot 2", "fault", "tape");
+        Check.changesOnly("read(3), which had none", IllegalArgumentException.class,
+            shapes -> shapes.end(19) + shapes.read(3), "fault", "tape");
+        for (int each = 0; each < 3; each++) {
+            int slot = each;
+            ByteShapes shapes = InUse.make();
+            shapes.end(19);
+            Check.badArgument("read(" + slot + ")", () -> shapes.read(slot));
+            hasNone(shapes, slot);
+        }
+    }
+
+    private static void hasNone(ByteShapes shapes, int slot) {
+        Check.equal("no plan numbers", 0, shapes.count(slot, 0));
+        Check.equal("no points", 0, shapes.count(slot, 1));
+        Check.noSuch("plan", () -> shapes.plan(slot, 0));
+        Check.noSuch("ordinate", () -> shapes.ordinate(slot, 0, 0));
+        Check.badState("write", () -> shapes.write(slot, 0));
+        Check.isTrue("as none as slot 3", shapes.same(slot, 3));
+    }
+
+    /** Bytes that go wrong late: nothing that was right in them is kept. */
+    private static void wrongOverAndOver() {
+        Check.says("(the slot has none then)");
+        Wkb whole = Wkb.shape(0, 7).number(2).part(1, 3).number(1).number(2).xy(1, 2, 3, 4).part(0, 1).xy(5, 6);
         ByteShapes shapes = new ByteShapes(0, 10, 20);
-        Wkb part = Wkb.shape(1, 7).number(9).part(0, 6).number(9).part(1, 3).number(9).number(9).xy(1, 2);
-        for (int cut = 0; cut <= part.bytes().length; cut++) {
-            part.cut(cut).feedTo(shapes);
-            Check.badArgument("read(0)", () -> shapes.read(0));
-            Check.reads("after " + cut + " bytes", shapes, 1, Wkb.shape(0, 1).xy(cut, 3), 1, 1);
-            Check.points("after " + cut + " bytes", shapes, 1, cut, 3);
+        for (int cut = 1; cut < whole.bytes().length; cut += 7) {
+            Check.reads("whole", shapes, 0, whole, 7, 2, 3, 1, 2, 1, 1);
+            whole.cut(cut).feedTo(shapes);
+            Check.badArgument("read, cut at " + cut, () -> shapes.read(0));
+            hasNone(shapes, 0);
         }
     }
 }

@@ -70,16 +70,23 @@ final class Wkb {
         return feed(shapes, bytes());
     }
 
+    /** What is no twenty bytes comes first, so that a tape can be fed up to its last byte. */
     static int feed(ByteShapes shapes, byte[] bytes) {
         int size = shapes.count(0, 2);
-        for (int i = 0; i < bytes.length; i += 20) {
-            size = shapes.feed(four(bytes, i), four(bytes, i + 4), four(bytes, i + 8),
-                four(bytes, i + 12), four(bytes, i + 16));
-            if (bytes.length - i < 20) {
-                size = shapes.end(bytes.length - i);
-            }
+        int odd = bytes.length % 20;
+        if (odd != 0) {
+            feedTwenty(shapes, bytes, 0);
+            size = shapes.end(odd);
+        }
+        for (int i = odd; i < bytes.length; i += 20) {
+            size = feedTwenty(shapes, bytes, i);
         }
         return size;
+    }
+
+    private static int feedTwenty(ByteShapes shapes, byte[] bytes, int at) {
+        return shapes.feed(four(bytes, at), four(bytes, at + 4), four(bytes, at + 8),
+            four(bytes, at + 12), four(bytes, at + 16));
     }
 
     private static int four(byte[] bytes, int at) {
