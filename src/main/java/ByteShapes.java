@@ -99,11 +99,7 @@ public final class ByteShapes {
     }
 
     public int ordinate(int slot, int i, int what) throws IndexOutOfBoundsException {
-        Shape shape = shapeIn(slot);
-        if (what < 0 || what > 1) {
-            throw new IndexOutOfBoundsException("what is 0 or 1");
-        }
-        return shape.valueOfPoint(i, what);
+        return shapeIn(slot).valueOfPoint(i, what);
     }
 
     public int byteAt(int i) throws IndexOutOfBoundsException {

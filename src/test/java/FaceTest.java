@@ -48,7 +48,8 @@ public final class FaceTest {
         Check.equal("methods that lack: " + due, 0, due.size());
         for (Class<?> inside : ByteShapes.class.getDeclaredClasses()) {
             for (Method method : inside.getDeclaredMethods()) {
-                Check.isFalse(inside + " " + method.getName() + " bears a public name", names.contains(method.getName()));
+                Check.isFalse(inside + " " + method.getName() + " bears a public name",
+                    names.contains(method.getName()));
             }
         }
     }

@@ -43,7 +43,8 @@ public final class Promise03EndTest {
         Check.says("the others are gone: how many it has.");
         for (int n = 0; n < 20; n++) {
             int left = n;
-            Check.answersAndChangesOnly("end(" + n + ")", InUse.TAPE_BYTES - 20 + n, shapes -> shapes.end(left), "tape");
+            Check.answersAndChangesOnly("end(" + n + ")", InUse.TAPE_BYTES - 20 + n,
+                shapes -> shapes.end(left), "tape");
         }
         Check.answersAndChangesOnly("end(20)", InUse.TAPE_BYTES, shapes -> shapes.end(20));
     }

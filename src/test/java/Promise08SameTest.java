@@ -7,6 +7,7 @@ public final class Promise08SameTest {
         sameShape();
         otherPlans();
         otherPoints();
+        fullRooms();
         bothNone();
         noneAndEmpty();
         changesNothing();
@@ -63,6 +64,18 @@ public final class Promise08SameTest {
         alike("x and y", false, line(1, 2), line(2, 1));
         alike("a point less", false, line(1, 2, 3, 4), line(1, 2));
         alike("a POINT and an empty one", false, Wkb.shape(0, 1).xy(0, 0), Wkb.shape(0, 1).bits(NONE, NONE));
+    }
+
+    private static void fullRooms() {
+        Check.says("Whether two slots have the same shape (plan and points)");
+        ByteShapes shapes = new ByteShapes(0, 2, 3);
+        for (int slot = 0; slot < 3; slot++) {
+            Wkb.shape(0, 3).number(1).number(2).xy(1, 2, 3, slot / 2).feedTo(shapes);
+            shapes.read(slot);
+        }
+        Check.isTrue("the same", shapes.same(0, 1));
+        Check.isFalse("another last y", shapes.same(0, 2));
+        Check.isFalse("none", shapes.same(0, 3));
     }
 
     private static void bothNone() {

@@ -20,6 +20,7 @@ public final class Terms2BytesTest {
         contentOfPolygon();
         contentOfMulti();
         contentOfCollection();
+        coordinates();
         bitsOfFractions();
         smallestFractions();
         ordinaryFractions();
@@ -82,7 +83,8 @@ public final class Terms2BytesTest {
     private static void moreCoordinates() {
         Check.says("whose bit 31 or 30 says that there are more coordinates");
         for (int kind = 1; kind <= 7; kind++) {
-            for (long bits : new long[] {0x80000000L, 0x40000000L, 0xC0000000L, 0xA0000000L, 0x60000000L, 0xE0000000L}) {
+            for (long bits : new long[] {0x80000000L, 0x40000000L, 0xC0000000L, 0xA0000000L, 0x60000000L,
+                0xE0000000L}) {
                 Check.fault(kind + " with " + bits, roomy(), Wkb.shape(0, bits + kind).number(0).number(0), 9, 1);
             }
         }
@@ -107,11 +109,13 @@ public final class Terms2BytesTest {
                 boolean known = kind >= 1 && kind <= 7 && thousands <= 3;
                 if (known && thousands == 0) {
                     int after = kind == 1 ? 16 : 4;
-                    Check.reads("type " + kind, roomy(), 0, Wkb.shape(0, kind).raw(new int[after]), kind, kind == 1 ? 1 : 0);
+                    Check.reads("type " + kind, roomy(), 0,
+                        Wkb.shape(0, kind).raw(new int[after]), kind, kind == 1 ? 1 : 0);
                 } else {
                     int type = 1000 * thousands + kind;
                     Check.fault("type " + type, roomy(), Wkb.shape(0, type).raw(new int[16]), known ? 9 : 2, 1);
-                    Check.fault("type " + type + " with a mark", roomy(), Wkb.shape(1, 0x20000000L + type), known ? 9 : 2, 1);
+                    Check.fault("type " + type + " with a mark", roomy(),
+                        Wkb.shape(1, 0x20000000L + type), known ? 9 : 2, 1);
                 }
             }
         }
@@ -214,6 +218,19 @@ public final class Terms2BytesTest {
         Check.fault("kind 8", roomy(), Wkb.shape(0, 7).number(1).part(0, 8), 2, 10);
     }
 
+    private static void coordinates() {
+        Check.says("A coordinate: x and y, eight bytes each");
+        for (int order = 0; order <= 1; order++) {
+            ByteShapes shapes = roomy();
+            Check.reads("x and y", shapes, 0, Wkb.shape(order, 2).number(2).xy(1, 2, 3, 4), 2, 2);
+            Check.points("x and y", shapes, 0, 1, 2, 3, 4);
+            Check.fault("seven bytes", shapes, Wkb.shape(order, 1).xy(1).cut(12), 3, 5);
+            Check.fault("eight bytes", shapes, Wkb.shape(order, 1).xy(1), 3, 13);
+            Check.fault("fifteen bytes", shapes, Wkb.shape(order, 1).xy(1, 2).cut(20), 3, 13);
+            Check.fault("seventeen bytes", shapes, Wkb.shape(order, 1).xy(1, 2).raw(0), 8, 21);
+        }
+    }
+
     private static void reads(int digits, long bits, int due) {
         ByteShapes shapes = new ByteShapes(digits, 1, 2);
         String what = Long.toHexString(bits) + " with " + digits + " digits";
@@ -262,7 +279,8 @@ public final class Terms2BytesTest {
         long infinite = Wkb.INFINITE;
         for (long sign : new long[] {0, SIGN}) {
             Check.fault("infinite", roomy(), Wkb.shape(0, 1).bits(sign | infinite, 0), 4, 5);
-            Check.fault("both infinite: no empty POINT", roomy(), Wkb.shape(0, 1).bits(infinite, sign | infinite), 4, 5);
+            Check.fault("both infinite: no empty POINT", roomy(),
+                Wkb.shape(0, 1).bits(infinite, sign | infinite), 4, 5);
             for (long f : new long[] {1, 1L << 31, 1L << 32, 1L << 51, (1L << 52) - 1}) {
                 Check.fault("no number", roomy(), Wkb.shape(0, 1).bits(0, sign | infinite | f), 4, 13);
                 Check.reads("no numbers: an empty POINT", roomy(), 0,

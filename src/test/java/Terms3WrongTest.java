@@ -1,3 +1,6 @@
+import java.math.BigDecimal;
+import java.util.Arrays;
+
 /** Terms: what is wrong first, and its place. */
 public final class Terms3WrongTest {
     private static final int ORDER = 1;
@@ -46,7 +49,8 @@ public final class Terms3WrongTest {
         Check.fault("an x before a y", roomy(), Wkb.shape(0, 1).xy(1e10).bits(Wkb.INFINITE), RANGE, 5);
         Check.fault("an x before the end", roomy(), Wkb.shape(0, 1).xy(1e10), RANGE, 5);
         Check.fault("a y before what is behind", roomy(), Wkb.shape(0, 1).xy(0, 1e10).raw(7), RANGE, 13);
-        Check.fault("a point before the next", roomy(), Wkb.shape(0, 2).number(2).xy(0, 1e10).bits(NONE, NONE), RANGE, 17);
+        Check.fault("a point before the next", roomy(),
+            Wkb.shape(0, 2).number(2).xy(0, 1e10).bits(NONE, NONE), RANGE, 17);
         Check.fault("a part before the next", roomy(),
             Wkb.shape(0, 5).number(2).part(0, 2).number(1).xy(1e10, 0).raw(9), RANGE, 18);
         Check.fault("a part before the end", roomy(), Wkb.shape(0, 7).number(9).raw(2), ORDER, 9);
@@ -73,7 +77,8 @@ public final class Terms3WrongTest {
         Check.says("1 ORDER: neither 0 nor 1.");
         for (int order : new int[] {2, 3, 127, 128, 254, 255}) {
             Check.fault("order " + order, roomy(), Wkb.bytes(order), ORDER, 0);
-            Check.fault("order " + order + " of a whole", roomy(), Wkb.bytes(order, 1, 0, 0, 0).raw(new int[16]), ORDER, 0);
+            Check.fault("order " + order + " of a whole", roomy(),
+                Wkb.bytes(order, 1, 0, 0, 0).raw(new int[16]), ORDER, 0);
             Check.fault("order " + order + " of a part", roomy(),
                 Wkb.shape(0, 4).number(2).part(0, 1).xy(1, 2).raw(order), ORDER, 30);
         }
@@ -136,13 +141,13 @@ public final class Terms3WrongTest {
             plan[2 * i] = 7;
             plan[2 * i + 1] = i < 49 ? 1 : 0;
         }
-        Check.reads("in forty-nine", roomy(), 0, nested(49, 7).number(0), java.util.Arrays.copyOf(plan, 100));
+        Check.reads("in forty-nine", roomy(), 0, nested(49, 7).number(0), Arrays.copyOf(plan, 100));
         plan[99] = 1;
         for (int kind = 2; kind <= 6; kind++) {
             plan[100] = kind;
             Check.reads(kind + " in fifty", roomy(), 0, nested(50, kind).number(0), plan);
         }
-        deepest(java.util.Arrays.copyOf(plan, 105));
+        deepest(Arrays.copyOf(plan, 105));
         sideBySide();
     }
 
@@ -255,8 +260,8 @@ public final class Terms3WrongTest {
         for (int digits = 0; digits < 4; digits++) {
             double farthest = Double.parseDouble("1000000000.5e-" + digits);
             beyondOrNot(digits, Math.nextDown(farthest), false);
-            beyondOrNot(digits, farthest, new java.math.BigDecimal(farthest).movePointRight(digits)
-                .compareTo(new java.math.BigDecimal("1000000000.5")) > 0);
+            beyondOrNot(digits, farthest, new BigDecimal(farthest).movePointRight(digits)
+                .compareTo(new BigDecimal("1000000000.5")) > 0);
             beyondOrNot(digits, Math.nextUp(farthest), true);
         }
     }
