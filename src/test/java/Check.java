@@ -86,6 +86,16 @@ final class Check {
         changesOnly(what, want, use);
     }
 
+    /** The same of a call that is refused only after another one, which is made in any case. */
+    static void leavesAllAfter(Use first, String what, Class<? extends RuntimeException> want, Use use) {
+        ByteShapes used = InUse.make();
+        first.answer(used);
+        refused(what, want, () -> use.answer(used));
+        ByteShapes other = InUse.make();
+        first.answer(other);
+        compare(what, other, used);
+    }
+
     /** That the call is refused, and that other calls show it in these parts of the object alone. */
     static void changesOnly(String what, Class<? extends RuntimeException> want, Use use, String... parts) {
         ByteShapes used = InUse.make();

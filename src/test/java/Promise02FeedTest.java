@@ -52,6 +52,15 @@ public final class Promise02FeedTest {
         refused("twenty behind 65536", shapes, 65536);
         Check.badArgument("read of noughts", () -> shapes.read(0));
         Check.equal("all is gone", 20, shapes.feed(0, 0, 0, 0, 0));
+        Check.leavesAllAfter(Promise02FeedTest::fill, "feed", IllegalStateException.class,
+            used -> used.feed(1, 2, 3, 4, 5));
+    }
+
+    private static long fill(ByteShapes shapes) {
+        while (shapes.count(0, 2) <= 65516) {
+            shapes.feed(9, 9, 9, 9, 9);
+        }
+        return shapes.count(0, 2);
     }
 
     private static void refused(String what, ByteShapes shapes, int size) {

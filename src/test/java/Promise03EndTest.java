@@ -70,6 +70,11 @@ public final class Promise03EndTest {
                 Check.equal("end(0) leaves it", size, shapes.end(0));
             }
         }
+        for (int n = 0; n <= 20; n++) {
+            int asked = n;
+            Check.leavesAllAfter(shapes -> shapes.end(0) + shapes.end(0), "end(" + n + ") of one",
+                IllegalStateException.class, shapes -> shapes.end(asked));
+        }
         ByteShapes twenty = new ByteShapes(0, 10, 10);
         twenty.feed(0, 0, 0, 0, 0);
         Check.equal("end(19) of twenty", 19, twenty.end(19));
