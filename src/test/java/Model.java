@@ -61,6 +61,11 @@ final class Model {
         return tape.length;
     }
 
+    /** Puts these bytes on the tape, and no others. */
+    void feedAll(byte[] bytes) {
+        tape = bytes.clone();
+    }
+
     int end(int n) {
         if (n < 0 || n > 20) {
             throw new IllegalArgumentException();
